@@ -1,0 +1,49 @@
+/** What the tests share: it counts and prints the answers that are not due, and writes TEXTS to SHEETS. */
+final class Due {
+    private int wrong = 0;
+    private final String test;
+
+    Due(String test) {
+        this.test = test;
+    }
+
+    void is(String call, long want, long got) {
+        if (want == got) return;
+        wrong++;
+        System.out.println(test + ": " + call + " answered " + got + ", due is " + want);
+    }
+
+    void holds(String what, boolean so) {
+        if (so) return;
+        wrong++;
+        System.out.println(test + ": it is not so: " + what);
+    }
+
+    void end() {
+        if (wrong != 0) {
+            System.out.println(test + ": " + wrong + " answers are not as due");
+            System.exit(1);
+        }
+    }
+
+    /** SHEET 3 gets the TEXT, as ints, and it is drilled by. */
+    static int drill(EmberDrill x, String text) {
+        x.sheet(3, 2, text.length());
+        for (int i = 0; i < text.length(); i++) x.put(3, i, text.charAt(i));
+        return x.drill(3, 2, 0, text.length());
+    }
+
+    static void row(EmberDrill x, int sheet, int lane, int... cells) {
+        x.sheet(sheet, lane, cells.length);
+        for (int i = 0; i < cells.length; i++) x.put(sheet, i, cells[i]);
+    }
+
+    /** A dry WOOD, a dry SOFT one, a dry PITCHY one: 0, 1, 2. */
+    static EmberDrill dryWoods() {
+        EmberDrill x = new EmberDrill();
+        x.wood(0, 4, 0, 20);
+        x.wood(1, 4, 0, 20);
+        x.wood(2, 4, 0, 20);
+        return x;
+    }
+}
