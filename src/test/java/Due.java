@@ -8,15 +8,17 @@ final class Due {
     }
 
     void is(String call, long want, long got) {
-        if (want == got) return;
-        wrong++;
-        System.out.println(test + ": " + call + " answered " + got + ", due is " + want);
+        if (want != got) note(call + " answered " + got + ", due is " + want);
     }
 
     void holds(String what, boolean so) {
-        if (so) return;
+        if (!so) note("it is not so: " + what);
+    }
+
+    /** One cause may spoil thousands of answers of a test by chance: the first ones tell enough. */
+    private void note(String line) {
         wrong++;
-        System.out.println(test + ": it is not so: " + what);
+        if (wrong <= 40) System.out.println(test + ": " + line);
     }
 
     void end() {
