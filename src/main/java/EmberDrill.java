@@ -660,11 +660,11 @@ public final class EmberDrill {
         }
 
         int number(int i) {
-            return within(i, 0, length - 1) ? cells[i] : 0;
+            return i >= 0 && i < length ? cells[i] : 0;
         }
 
         void write(int i, int v) {
-            if (!within(i, 0, length - 1)) return;
+            if (i < 0 || i >= length) return;
             if (lane == 0) cells[i] = (byte) v;
             else if (lane == 1) cells[i] = (short) v;
             else cells[i] = v;

@@ -4,9 +4,12 @@ public final class BestTest {
 
     public static void main(String[] args) {
         grid();
+        gridToItsEnd();
         finish();
+        finishToItsEnd();
         go();
         more();
+        moreByTheStrongest();
         moreRefuses();
         states();
         DUE.end();
@@ -36,6 +39,56 @@ public final class BestTest {
         grids(x, "too weak", EmberDrill.NONE, EmberDrill.NONE, EmberDrill.NONE);
         DUE.is("what 3", EmberDrill.OUTSIDE, x.grid(3));
         DUE.is("what -1", EmberDrill.OUTSIDE, x.grid(-1));
+    }
+
+    /** Found by trying: in the one it comes just in the last second, in the other it would come in the next. */
+    private static void gridToItsEnd() {
+        EmberDrill x = new EmberDrill();
+        x.wood(1, 9, 7, 52);
+        x.wood(1, 7, 13, 48);
+        x.take(0, 1);
+        x.tell(0, 181);
+        x.tell(2, 0);
+        x.tell(3, 85);
+        Due.drill(x, "b;s");
+        grids(x, "in second 120", 120, 4, 3);
+        x = new EmberDrill();
+        x.wood(0, 7, 27, 46);
+        x.wood(2, 8, 23, 22);
+        x.take(0, 1);
+        x.tell(0, 15);
+        x.tell(1, 5);
+        x.tell(2, 1);
+        x.tell(3, 61);
+        Due.drill(x, "b;s");
+        grids(x, "it would be 121", EmberDrill.NONE, EmberDrill.NONE, EmberDrill.NONE);
+    }
+
+    /** Two hard WOODS that give 1 of dust by a press of 9, but for its first second, which is not hot enough. */
+    private static EmberDrill hardWoods(int arms, int heap) {
+        EmberDrill x = new EmberDrill();
+        x.wood(0, 9, 0, 20);
+        x.wood(0, 8, 0, 20);
+        x.take(0, 1);
+        x.tell(0, arms);
+        x.tell(1, 9);
+        x.tell(2, 0);
+        x.tell(3, heap);
+        return x;
+    }
+
+    /** One who is tired rests 6 seconds for one by 9 and 9. */
+    private static void finishToItsEnd() {
+        EmberDrill x = hardWoods(18, 17);
+        Due.drill(x, "b;s");
+        finishes(x, "the 18th in second 1 + 7 * 17", 120, 0);
+        x.tell(3, 18);
+        finishes(x, "the 19th in second 127", EmberDrill.NONE, EmberDrill.NONE);
+        x = hardWoods(36, 17);
+        Due.drill(x, "b;s");
+        finishes(x, "the 18th in second 2 + 7 * 16", 114, 0);
+        x.tell(3, 18);
+        finishes(x, "the 19th in second 121", EmberDrill.NONE, EmberDrill.NONE);
     }
 
     private static void finishes(EmberDrill x, String call, int second, int k) {
@@ -124,6 +177,18 @@ public final class BestTest {
         likely(x, "as its last p, not as its last item", 1, 1, 1);
         x.tell(3, 99);
         likely(x, "9 seconds of 6 are too little", 1, 0, 1);
+    }
+
+    /** 999 are 55 times 18, 1039 would be 57 times. */
+    private static void moreByTheStrongest() {
+        EmberDrill x = hardWoods(999, 54);
+        Due.row(x, 0, 0, 77, 0, 0, 0, 0, 1);
+        Due.drill(x, "b;p9960");
+        likely(x, "the 55th", 0, 1, 1);
+        x.tell(3, 56);
+        likely(x, "arms are not above 999", 0, 0, 1);
+        likely(x, "the 56th in second 59, the 57th in second 66", 5, 0, 1);
+        likely(x, "the 57th", 6, 1, 1);
     }
 
     private static void lost(EmberDrill x, String call, int fault, int n, int... sheetLaneFromWhich) {

@@ -36,7 +36,27 @@ public final class NestTest {
         DUE.is("3 / 4 is 0", EmberDrill.NONE, x.nest(9, 3, 1));
         int[][] wrong = {{-1, 0, 1}, {10, 0, 1}, {0, -1, 1}, {0, 10, 1}, {0, 0, 0}, {0, 0, 10}};
         for (int[] w : wrong) DUE.is("wrong", EmberDrill.OUTSIDE, x.nest(w[0], w[1], w[2]));
+        nestToItsEnd();
         muchDust();
+    }
+
+    /** Two hard WOODS that give 1 of dust a second: GLIMMER is HEAP. */
+    private static EmberDrill glimmerOf(int heap) {
+        EmberDrill x = new EmberDrill();
+        x.wood(0, 9, 0, 20);
+        x.wood(0, 8, 0, 20);
+        x.take(0, 1);
+        x.tell(0, 999);
+        x.tell(2, 0);
+        x.tell(3, heap);
+        Due.drill(x, "b;p5460;p5460");
+        DUE.is("glimmer", heap, x.at(x.ember(), 1));
+        return x;
+    }
+
+    private static void nestToItsEnd() {
+        DUE.is("40 and 60", 60, glimmerOf(40).nest(9, 2, 4));
+        DUE.is("39 and 60", EmberDrill.NONE, glimmerOf(39).nest(9, 2, 4));
     }
 
     /** 9 of heat, 4 of dust a second, from heat 108 in the twelfth on. */
@@ -67,8 +87,12 @@ public final class NestTest {
         int[][] wrong = {{-1, 0}, {10, 0}, {0, -1}, {0, 10}};
         for (int[] w : wrong) DUE.is("wrong", EmberDrill.OUTSIDE, x.blow(w[0], w[1]));
         for (int dry = 0; dry < 10; dry++) {
-            for (int loose = 0; loose < 10; loose++) DUE.is("blow", bestBlow(x, dry, loose), x.blow(dry, loose));
+            for (int loose = 0; loose < 10; loose++) {
+                EmberDrill y = glimmerOf(7 + 9 * dry + loose % 2);
+                DUE.is("blow", bestBlow(y, dry, loose), y.blow(dry, loose));
+            }
         }
+        DUE.is("of 5 and 6 the lesser", 5, glimmerOf(72).blow(9, 9));
     }
 
     private static int bestBlow(EmberDrill x, int dry, int loose) {
