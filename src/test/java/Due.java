@@ -30,9 +30,13 @@ final class Due {
 
     /** SHEET 3 gets the TEXT, as ints, and it is drilled by. */
     static int drill(EmberDrill x, String text) {
-        x.sheet(3, 2, text.length());
-        for (int i = 0; i < text.length(); i++) x.put(3, i, text.charAt(i));
+        write(x, 3, 2, text);
         return x.drill(3, 2, 0, text.length());
+    }
+
+    static void write(EmberDrill x, int sheet, int lane, String text) {
+        x.sheet(sheet, lane, text.length());
+        for (int i = 0; i < text.length(); i++) x.put(sheet, i, text.charAt(i));
     }
 
     static void row(EmberDrill x, int sheet, int lane, int... cells) {
@@ -46,6 +50,19 @@ final class Due {
         x.wood(0, 4, 0, 20);
         x.wood(1, 4, 0, 20);
         x.wood(2, 4, 0, 20);
+        return x;
+    }
+
+    /** Two hard WOODS that give 1 of dust a second: GLIMMER is HEAP, from 6 on. */
+    static EmberDrill glimmerOf(int heap) {
+        EmberDrill x = new EmberDrill();
+        x.wood(0, 9, 0, 20);
+        x.wood(0, 8, 0, 20);
+        x.take(0, 1);
+        x.tell(0, 999);
+        x.tell(2, 0);
+        x.tell(3, heap);
+        drill(x, "b;p5460;p5460");
         return x;
     }
 }

@@ -40,16 +40,8 @@ public final class NestTest {
         muchDust();
     }
 
-    /** Two hard WOODS that give 1 of dust a second: GLIMMER is HEAP. */
     private static EmberDrill glimmerOf(int heap) {
-        EmberDrill x = new EmberDrill();
-        x.wood(0, 9, 0, 20);
-        x.wood(0, 8, 0, 20);
-        x.take(0, 1);
-        x.tell(0, 999);
-        x.tell(2, 0);
-        x.tell(3, heap);
-        Due.drill(x, "b;p5460;p5460");
+        EmberDrill x = Due.glimmerOf(heap);
         DUE.is("glimmer", heap, x.at(x.ember(), 1));
         return x;
     }
