@@ -25,6 +25,7 @@ public final class BestEdgesTest {
         moreInLeastTerms();
         moreByArmsAtTheirEdges();
         moreByArmsOf999();
+        moreOfItsOwnFiveCells();
         moreFromTheEndOfARow();
         moreOfEachLane();
         moreIsRefusedByWeights();
@@ -321,6 +322,21 @@ public final class BestEdgesTest {
                 likely("arms " + a + ": it is strong again", x, 1, 1, 1);
             }
         }
+    }
+
+    /** "MORE, by five cells": those ahead of them and behind them do not count. */
+    private static void moreOfItsOwnFiveCells() {
+        EmberDrill x = woods(0, 0, 20, "h;p9903");
+        Due.row(x, 0, 0, 9, 0, 1, 0, 1, 0, 9);
+        DUE.is("upper", 1, x.more(0, 0, 0, 1, 0));
+        DUE.is("lower", 1, x.more(0, 0, 0, 1, 1));
+        Due.row(x, 0, 0, 99, 1, 1, 1, 1, 1, -99);
+        x.tell(ARMS, 54);
+        DUE.is("upper", 3, x.more(0, 0, 0, 1, 0));
+        DUE.is("lower", 5, x.more(0, 0, 0, 1, 1));
+        DUE.is("one ahead of them", EmberDrill.LOST, x.more(0, 0, 0, 0, 1));
+        DUE.is("one behind them", EmberDrill.LOST, x.more(0, 0, 0, 2, 1));
+        DUE.is("no fault", 0, x.fault());
     }
 
     /** "INDEX: 5 cells" */
