@@ -3,7 +3,7 @@ import java.util.List;
 import java.util.regex.Matcher;
 import java.util.regex.Pattern;
 
-/** The document's words once more, in another way and without any haste, for ModelTest to compare with. */
+/** The document's words once more, in another way and without any haste, for ModelTest and Plain. */
 final class Model {
     private static final String SECONDS = "(?:0[1-9]|[1-5][0-9]|60)";
     private static final Pattern TEXT =
@@ -154,6 +154,26 @@ final class Model {
             if (best[0] == EmberDrill.NONE || ember <= best[0]) best = new int[] {ember, k};
         }
         return best;
+    }
+
+    static int flame(int glimmer, int dry, int loose, int b) {
+        int g = glimmer;
+        int s = 0;
+        while (s < 60) {
+            s++;
+            g += loose * b / 4;
+            g -= 10 - dry;
+            if (b > 6) g -= b;
+            if (g >= 100) return s;
+            if (g <= 0) break;
+        }
+        return EmberDrill.NONE;
+    }
+
+    static int carried(int glimmer, int horn) {
+        int hours = 0;
+        for (int g = glimmer - glimmer / horn - 1; g >= 5; g = g - g / horn - 1) hours++;
+        return hours;
     }
 
     /** The sum of DAYS, then the order: by each order of all things, the first as a row first. */

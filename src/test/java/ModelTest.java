@@ -82,27 +82,12 @@ public final class ModelTest {
             DUE.is(name + "go " + w, set, x.go(w));
         }
         int horn = of(chance, 2, 9);
-        int hours = 0;
-        for (int g = due[8] - due[8] / horn - 1; g >= 5; g = g - g / horn - 1) hours++;
-        DUE.is(name + "carried " + horn, due[7] == EmberDrill.NONE ? EmberDrill.STATE : hours, x.carried(horn));
+        boolean none = due[7] == EmberDrill.NONE;
+        DUE.is(name + "carried " + horn, none ? EmberDrill.STATE : Model.carried(due[8], horn), x.carried(horn));
         int dry = of(chance, 0, 9);
         int loose = of(chance, 0, 9);
         int b = of(chance, 1, 9);
-        DUE.is(name + "nest", due[7] == EmberDrill.NONE ? EmberDrill.STATE : flame(due[8], dry, loose, b), x.nest(dry, loose, b));
-    }
-
-    private static int flame(int glimmer, int dry, int loose, int b) {
-        int g = glimmer;
-        int s = 0;
-        while (s < 60) {
-            s++;
-            g += loose * b / 4;
-            g -= 10 - dry;
-            if (b > 6) g -= b;
-            if (g >= 100) return s;
-            if (g <= 0) break;
-        }
-        return EmberDrill.NONE;
+        DUE.is(name + "nest", none ? EmberDrill.STATE : Model.flame(due[8], dry, loose, b), x.nest(dry, loose, b));
     }
 
     private static void best(String name, Model model, EmberDrill x, boolean bow, List<int[]> steps, int spindle, int board) {
